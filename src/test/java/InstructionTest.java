@@ -15,6 +15,7 @@ public final class InstructionTest {
         immediates();
         loads();
         stores();
+        everyRegister();
         registerZero();
         unusedParts();
         reserved();
@@ -239,6 +240,17 @@ public final class InstructionTest {
         }
         CHECK.due("OP " + op + " leaves T", x.register(9), 0xA1B2C3D4);
         CHECK.due("OP " + op + ", the byte before", x.byteOf(7), 0);
+    }
+
+    private static void everyRegister() {
+        for (int k = 1; k < 32; k++) {
+            GuestRunner x = Guest.begun(Guest.load(k, 50 + k), Guest.function(33, k, k, k, 0));
+            x.run(2);
+            for (int other = 1; other < 34; other++) {
+                int rest = other == 29 ? 268435712 : 0;
+                CHECK.due("register " + other + " by " + k, x.register(other), other == k ? 100 + 2 * k : rest);
+            }
+        }
     }
 
     private static void registerZero() {

@@ -10,6 +10,7 @@ public final class TurnTest {
         branchLinks();
         jumps();
         jumpTargets();
+        noLink();
         linkBeforeSlot();
         conditionBeforeSlot();
         notTaken();
@@ -110,6 +111,21 @@ public final class TurnTest {
         GuestRunner slot = Guest.begun(Guest.jump(2, 1), Guest.grow(8, 1));
         CHECK.due("jump to its slot, the last word", slot.run(2), 0);
         CHECK.due("jump to its slot: PC", slot.register(34), 1);
+    }
+
+    private static void noLink() {
+        int[] turns = {Guest.function(8, 8, 0, 11, 0), Guest.function(9, 8, 0, 0, 0), Guest.jump(2, 4),
+            Guest.immediate(1, 8, 0, 2), Guest.immediate(1, 8, 1, 2), Guest.immediate(4, 8, 8, 2),
+            Guest.immediate(5, 8, 0, 2), Guest.immediate(6, 8, 0, 2), Guest.immediate(7, 8, 0, 2)};
+        for (int w : turns) {
+            GuestRunner x = Guest.begun(w, Guest.NOP, Guest.NOP, Guest.NOP, Guest.NOP);
+            x.give(8, Guest.address(4));
+            CHECK.due("turn " + w, x.run(2), 0);
+            for (int k = 0; k < 34; k++) {
+                int want = k == 8 ? Guest.address(4) : k == 29 ? 268435712 : 0;
+                CHECK.due("turn " + w + " leaves register " + k, x.register(k), want);
+            }
+        }
     }
 
     private static void linkBeforeSlot() {
