@@ -30,6 +30,8 @@ public final class FaceTest {
         }
         for (Field f : GuestRunner.class.getDeclaredFields()) {
             look(f, f.getName());
+            CHECK.isTrue(f.getName() + " is a constant if public", !Modifier.isPublic(f.getModifiers())
+                    || Modifier.isStatic(f.getModifiers()) && f.getType() == int.class);
             CHECK.isTrue(f.getName() + " final if static",
                     !Modifier.isStatic(f.getModifiers()) || Modifier.isFinal(f.getModifiers()));
         }
@@ -47,6 +49,8 @@ public final class FaceTest {
     private static void lookAtMethod(Method m) {
         if (Modifier.isPublic(m.getModifiers())) {
             CHECK.isTrue(m.getName() + " answers an int", m.getReturnType() == int.class);
+            CHECK.isTrue(m.getName() + " is of an object", !Modifier.isStatic(m.getModifiers()));
+            CHECK.due(m.getName() + " declares exceptions", m.getExceptionTypes().length, 0);
             return;
         }
         for (String name : FACE) {

@@ -2,6 +2,7 @@
 final class Guest {
     static final int TEXT = 4194304;
     static final int DATA = 268435456;
+    static final int STACK = 268435712;
     static final int NOP = 0;
     static final int SYSTEM = function(12, 0, 0, 0, 0);
     static final int BREAK = function(13, 0, 0, 0, 0);
@@ -20,6 +21,16 @@ final class Guest {
 
     static int jump(int op, int wordNumber) {
         return op << 26 | (TEXT / 4 + wordNumber);
+    }
+
+    /** A branch that always goes. */
+    static int branch(int i) {
+        return immediate(4, 0, 0, i);
+    }
+
+    /** A branch that never goes. */
+    static int stay(int i) {
+        return immediate(5, 0, 0, i);
     }
 
     /** Register t becomes a small value. */
@@ -45,14 +56,27 @@ final class Guest {
         return x;
     }
 
-    /** All that can be seen of a runner from outside, but for what run() would answer. */
+    /** A text of so many words, all of them the same. */
+    static int[] text(int count, int word) {
+        int[] words = new int[count];
+        java.util.Arrays.fill(words, word);
+        return words;
+    }
+
+    /**
+     * What can be seen of a runner from outside, but for what run() would answer. Of DATA it looks at both ends and
+     * at every eighth byte between, as the document promises no more than 512 calls of an object.
+     */
     static String state(GuestRunner x) {
         StringBuilder all = new StringBuilder();
         for (int k = 0; k <= 35; k++) {
             all.append(x.register(k)).append(' ');
         }
-        for (int k = 0; k < 256; k++) {
-            all.append(x.byteOf(k)).append(' ').append(x.output(k)).append(' ');
+        for (int k = 0; k < 256; k += k < 16 || k >= 240 ? 1 : 8) {
+            all.append(x.byteOf(k)).append(' ');
+        }
+        for (int k = 0; k < 256 && x.output(k) != GuestRunner.BAD; k++) {
+            all.append(x.output(k)).append(' ');
         }
         return all.append(x.code()).toString();
     }

@@ -1,77 +1,121 @@
 import java.util.Random;
 
-/** Random programs, by fixed seeds: no call ever throws, and traps and pieces of fuel leave what they must. */
+/** Random programs and calls, by fixed seeds: no call ever throws, and each answers what the model answers. */
 public final class RandomTest {
     private static final Check CHECK = new Check();
     private static final int[] FUNCTIONS = {0, 2, 3, 4, 6, 7, 8, 9, 12, 13, 16, 17, 18, 19, 24, 25, 26, 27,
         32, 33, 34, 35, 36, 37, 38, 39, 42, 43};
     private static final int[] OPS = {1, 2, 3, 4, 5, 6, 7, 8, 9, 10, 11, 12, 13, 14, 15,
         32, 33, 35, 36, 37, 40, 41, 43};
+    private static final int[] EDGES = {0, 1, 2, 3, 4, 31, 32, 255, 256, 0x7FFF, 0x8000, 0xFFFF, -1, -2, -0x8000,
+        Integer.MIN_VALUE, Integer.MIN_VALUE + 1, Integer.MAX_VALUE, Integer.MAX_VALUE - 1,
+        Guest.TEXT, Guest.TEXT - 4, Guest.TEXT + 252, Guest.TEXT + 256,
+        Guest.DATA, Guest.DATA - 1, Guest.DATA - 4, Guest.DATA + 252, Guest.DATA + 255, Guest.DATA + 256};
+    // What the document promises of one object ends there.
+    private static final int MOST_CALLS = 512;
+
+    private final String name;
+    private final Random random;
+    private final GuestRunner x = new GuestRunner();
+    private final Model model = new Model();
+    private int calls;
+
+    private RandomTest(String name, int seed) {
+        this.name = name + " " + seed;
+        this.random = new Random(seed);
+    }
 
     public static void main(String[] args) {
         for (int seed = 0; seed < 3000; seed++) {
-            try {
-                twins(seed);
-                anyCalls(seed);
-            } catch (RuntimeException e) {
-                CHECK.isTrue("seed " + seed + " threw " + e, false);
-            }
+            run(new RandomTest("program", seed), true);
+            run(new RandomTest("calls", seed), false);
         }
         CHECK.end();
     }
 
-    /** What one run did up to its stop, a twin does step by step; the trap itself leaves no trace. */
-    private static void twins(int seed) {
-        GuestRunner whole = program(new Random(seed));
-        GuestRunner parts = program(new Random(seed));
-        int answer = whole.run(300);
-        int used = whole.register(35);
-        for (int k = 0; k < 300 && parts.register(35) < used; k++) {
-            step(parts);
-        }
-        CHECK.isTrue("seed " + seed + ": twins", Guest.state(whole).equals(Guest.state(parts)));
-        CHECK.isTrue("seed " + seed + ": used " + used, used <= 300 && (answer != 0 || used >= 299));
-        if (answer != 0) {
-            CHECK.due("seed " + seed + ": the twin's stop", parts.run(2), answer);
-            CHECK.isTrue("seed " + seed + ": twins stopped", Guest.state(whole).equals(Guest.state(parts)));
+    private static void run(RandomTest test, boolean isProgram) {
+        try {
+            if (isProgram) {
+                test.program();
+                test.lookAtAll();
+            } else {
+                test.anyCalls();
+            }
+        } catch (RuntimeException e) {
+            CHECK.isTrue(test.name + " threw " + e, false);
         }
     }
 
-    private static void step(GuestRunner x) {
-        int before = x.register(35);
-        x.run(1);
-        if (x.register(35) == before) {
-            x.run(2);
-        }
+    private void due(String call, int got, int want) {
+        calls++;
+        CHECK.due(name + ", call " + calls + ": " + call, got, want);
     }
 
-    private static GuestRunner program(Random random) {
-        GuestRunner x = new GuestRunner();
+    private void word(int v) {
+        due("word", x.word(v), model.word(v));
+    }
+
+    private void give(int k, int v) {
+        due("give", x.give(k, v), model.give(k, v));
+    }
+
+    private int runFor(int fuel) {
+        int want = model.run(fuel);
+        due("run", x.run(fuel), want);
+        return want;
+    }
+
+    private int words() {
         int words = 1 + random.nextInt(64);
         for (int k = 0; k < words; k++) {
-            x.word(anyWord(random, words));
+            word(anyWord(words));
         }
-        for (int k = 0; k < 10; k++) {
-            x.input(random.nextInt(256));
-            x.data(random.nextInt(256), random.nextInt(256));
-        }
-        x.begin();
-        for (int k = 0; k < 8; k++) {
-            x.give(k, random.nextInt(4));
-        }
-        for (int k = 8; k < 16; k++) {
-            x.give(k, Guest.DATA + 4 * random.nextInt(64));
-        }
-        for (int k = 16; k < 24; k++) {
-            x.give(k, Guest.address(random.nextInt(words)));
-        }
-        for (int k = 24; k < 34; k++) {
-            x.give(k, random.nextInt());
-        }
-        return x;
+        return words;
     }
 
-    private static int anyWord(Random random, int words) {
+    private void program() {
+        int words = words();
+        for (int k = 0; k < 10; k++) {
+            int b = random.nextInt(256);
+            int at = random.nextInt(256);
+            due("input", x.input(b), model.input(b));
+            due("data", x.data(at, b), model.data(at, b));
+        }
+        due("begin", x.begin(), model.begin());
+        for (int k = 1; k < 8; k++) {
+            give(k, random.nextInt(4));
+        }
+        for (int k = 8; k < 16; k++) {
+            give(k, Guest.DATA + 4 * random.nextInt(64));
+        }
+        for (int k = 16; k < 24; k++) {
+            give(k, Guest.address(random.nextInt(words)));
+        }
+        for (int k = 24; k < 34; k++) {
+            give(k, anyValue());
+        }
+        for (int k = 0; k < 40; k++) {
+            if (runFor(1 + random.nextInt(20)) != 0) {
+                break;
+            }
+            due("PC", x.register(34), model.register(34));
+        }
+    }
+
+    private void lookAtAll() {
+        for (int k = 0; k <= 35; k++) {
+            due("register " + k, x.register(k), model.register(k));
+        }
+        due("code", x.code(), model.code());
+        for (int k = 0; k < 256 && calls < MOST_CALLS; k++) {
+            due("byteOf " + k, x.byteOf(k), model.byteOf(k));
+        }
+        for (int k = 0; k < 256 && calls < MOST_CALLS; k++) {
+            due("output " + k, x.output(k), model.output(k));
+        }
+    }
+
+    private int anyWord(int words) {
         int s = random.nextInt(32);
         int t = random.nextInt(32);
         if (random.nextInt(50) == 0) {
@@ -89,35 +133,46 @@ public final class RandomTest {
             return Guest.immediate(op, s, op == 1 ? t % 2 + t / 16 * 16 : t, random.nextInt(12) - 6);
         }
         if (op >= 32) {
-            return Guest.immediate(op, 8 + s % 8, t % 8, 4 * (random.nextInt(16) - 8));
+            return Guest.immediate(op, 8 + s % 8, t % 8, random.nextInt(64) - 32);
         }
-        return Guest.immediate(op, s, t % 8, random.nextInt());
+        return Guest.immediate(op, s, t % 8, anyValue());
     }
 
-    private static void anyCalls(int seed) {
-        Random random = new Random(seed);
-        GuestRunner x = program(random);
-        for (int k = 0; k < 300; k++) {
-            int a = anyInt(random);
-            int b = anyInt(random);
-            switch (random.nextInt(11)) {
-                case 0 -> x.word(a);
-                case 1 -> x.set(a, b);
-                case 2 -> x.input(a);
-                case 3 -> x.data(a, b);
-                case 4 -> x.begin();
-                case 5 -> x.run(a);
-                case 6 -> x.register(a);
-                case 7 -> x.give(a, b);
-                case 8 -> x.byteOf(a);
-                case 9 -> x.output(a);
-                default -> x.code();
+    /** Calls of every kind, with arguments at and beside every edge, in any order. */
+    private void anyCalls() {
+        words();
+        while (calls < MOST_CALLS) {
+            int a = anyArgument();
+            int b = random.nextInt(4) == 0 ? anyArgument() : anyValue();
+            switch (random.nextInt(14)) {
+                case 0 -> word(anyWord(32));
+                case 1 -> due("set", x.set(a, b), model.set(a, b));
+                case 2 -> due("input", x.input(a), model.input(a));
+                case 3 -> due("data", x.data(a, a), model.data(a, a));
+                case 4 -> due("begin", x.begin(), model.begin());
+                case 5 -> runFor(a);
+                case 6 -> runFor(1 + random.nextInt(9));
+                case 7 -> due("register", x.register(a), model.register(a));
+                case 8 -> give(random.nextInt(36) - 1, b);
+                case 9 -> give(a, b);
+                case 10 -> due("byteOf", x.byteOf(a), model.byteOf(a));
+                case 11 -> due("output", x.output(a), model.output(a));
+                case 12 -> due("code", x.code(), model.code());
+                default -> lookAtRegister();
             }
-            CHECK.due("register 0", x.register(0), 0);
         }
     }
 
-    private static int anyInt(Random random) {
-        return random.nextInt(3) == 0 ? random.nextInt() : random.nextInt(300) - 10;
+    private void lookAtRegister() {
+        int k = random.nextInt(36);
+        due("register " + k, x.register(k), model.register(k));
+    }
+
+    private int anyArgument() {
+        return random.nextInt(4) == 0 ? anyValue() : random.nextInt(300) - 10;
+    }
+
+    private int anyValue() {
+        return random.nextInt(3) == 0 ? random.nextInt() : EDGES[random.nextInt(EDGES.length)];
     }
 }
