@@ -13,6 +13,7 @@ public final class StepEdgesTest {
         branchConditions();
         linkWhetherOrNot();
         linkIsTwoBehind();
+        noLinkElse();
         branchDistance();
         jumpTarget();
         sBeforeLink();
@@ -142,6 +143,33 @@ public final class StepEdgesTest {
         CHECK.due("f 9, the last two words: PC", z.register(34), 0);
     }
 
+    // "9 JUMP to S, D = LINK .. 16, 17 .. register 31 = LINK .. 3 also 31 = LINK" (and nothing else gives LINK)
+    private static void noLinkElse() {
+        int[] turns = {Guest.function(8, 8, 9, 11, 0), Guest.function(9, 8, 0, 0, 0), Guest.jump(2, 2),
+            Guest.immediate(1, 8, 0, 1), Guest.immediate(1, 8, 1, 1), Guest.immediate(4, 8, 9, 1),
+            Guest.immediate(5, 8, 9, 1), Guest.immediate(6, 8, 9, 1), Guest.immediate(7, 8, 9, 1)};
+        for (int turn : turns) {
+            GuestRunner x = Guest.begun(turn, Guest.NOP, Guest.NOP);
+            for (int k = 1; k < 34; k++) {
+                x.give(k, k == 8 ? Guest.address(2) : -k);
+            }
+            goesTo("no LINK of " + turn, 2, x);
+            for (int k = 0; k < 34; k++) {
+                CHECK.due("no LINK of " + turn + ": register " + k, x.register(k), k == 8 ? Guest.address(2) : -k);
+            }
+        }
+        int[] links = {Guest.jump(3, 2), Guest.immediate(1, 8, 16, 1), Guest.immediate(1, 8, 17, 1),
+            Guest.function(9, 8, 9, 31, 0)};
+        for (int turn : links) {
+            GuestRunner x = with(Guest.address(2), turn, Guest.NOP, Guest.NOP);
+            goesTo("LINK of " + turn, 2, x);
+            for (int k = 10; k < 34; k++) {
+                int want = k == 29 ? Guest.STACK : k == 31 ? Guest.address(2) : 0;
+                CHECK.due("LINK of " + turn + ": register " + k, x.register(k), want);
+            }
+        }
+    }
+
     // "BRANCH: PC of the next word + i."
     private static void branchDistance() {
         int[][] inside = {{0, -1}, {0, 0}, {0, 1}, {0, 62}, {1, -2}, {62, -63}, {62, 0}, {62, -1}, {30, -31}, {30, 32}};
@@ -167,6 +195,11 @@ public final class StepEdgesTest {
                 CHECK.due("to target 0", behindTurn(at(place, op << 26)), -17);
                 CHECK.due("to the highest target", behindTurn(at(place, op << 26 | 0x03FFFFFF)), -17);
                 CHECK.due("to a target by number", behindTurn(at(place, op << 26 | 1)), -17);
+            }
+            // TEXT is 64 words: a target of another bit from the seventh on is none of them.
+            for (int bit = 6; bit < 26; bit++) {
+                int turn = op << 26 | TEXT / 4 ^ 1 << bit;
+                CHECK.due("to a target with another bit " + bit, behindTurn(at(0, turn)), -17);
             }
         }
     }
@@ -328,6 +361,11 @@ public final class StepEdgesTest {
                 access(op, address, 3);
             }
         }
+        for (int bit = 8; bit < 32; bit++) {
+            access(32, DATA ^ 1 << bit, 3);
+            access(40, DATA ^ 1 << bit, 3);
+            access(40, TEXT ^ 1 << bit, 3);
+        }
         traps("S + i wraps around from below", 3, with(0, Guest.immediate(32, 8, 10, -1)));
         traps("S + i wraps around from above", 3, with(MAX, Guest.immediate(32, 8, 10, 1)));
     }
@@ -414,6 +452,10 @@ public final class StepEdgesTest {
         for (int op : new int[] {2, 3}) {
             traps("OP " + op + " before TEXT", 7, with(0, Guest.jump(op, -1), SLOT));
             traps("OP " + op + " behind TEXT", 7, with(0, Guest.jump(op, 2), SLOT));
+        }
+        for (int bit = 3; bit < 32; bit++) {
+            int address = TEXT ^ 1 << bit;
+            traps("f 8 to another bit " + bit, 7, with(address, Guest.function(8, 8, 0, 0, 0), SLOT));
         }
         goesTo("f 8 to the last word", 1, with(TEXT + 4, Guest.function(8, 8, 0, 0, 0), SLOT));
         goesTo("OP 2 to the last word", 1, with(0, Guest.jump(2, 1), SLOT));

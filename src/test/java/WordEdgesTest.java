@@ -22,6 +22,7 @@ public final class WordEdgesTest {
         notUsedNotLookedAt();
         shiftsByH();
         shiftsByTheLowestFiveBits();
+        hiAndLo();
         productHalves();
         quotientWithSign();
         quotientWithoutSign();
@@ -361,6 +362,27 @@ public final class WordEdgesTest {
         gives(6, -1, MIN, 1);
     }
 
+    // "16 D = HI. 17 HI = S. 18 D = LO. 19 LO = S."
+    private static void hiAndLo() {
+        for (int v : EDGES) {
+            GuestRunner x = Guest.begun(Guest.function(16, 0, 0, 10, 0), Guest.function(18, 0, 0, 11, 0),
+                    Guest.function(17, 8, 0, 0, 0), Guest.function(19, 9, 0, 0, 0), Guest.NOP);
+            x.give(8, v - 5);
+            x.give(9, v - 6);
+            x.give(32, v);
+            x.give(33, v - 1);
+            x.run(2);
+            CHECK.due("D = HI", x.register(10), v);
+            CHECK.due("D = LO", x.register(11), v - 1);
+            x.run(1);
+            CHECK.due("HI = S", x.register(32), v - 5);
+            CHECK.due("HI = S leaves LO", x.register(33), v - 1);
+            x.run(1);
+            CHECK.due("LO = S", x.register(33), v - 6);
+            CHECK.due("LO = S leaves HI", x.register(32), v - 5);
+        }
+    }
+
     // "24 HI, LO = the upper, lower half of S T (with sign). 25 without sign."
     private static void productHalves() {
         halves(24, MIN, MIN, 0x40000000, 0);
@@ -556,7 +578,8 @@ public final class WordEdgesTest {
         for (int high : highs) {
             for (int low : lows) {
                 int value = 256 * high + low;
-                CHECK.due("two bytes " + value + " with sign", loaded(33, high, low), value < 32768 ? value : value - 65536);
+                int signed = value < 32768 ? value : value - 65536;
+                CHECK.due("two bytes " + value + " with sign", loaded(33, high, low), signed);
                 CHECK.due("two bytes " + value + " without", loaded(37, high, low), value);
             }
         }
@@ -588,8 +611,8 @@ public final class WordEdgesTest {
             CHECK.due("OP " + op + " at " + at, x.run(1), 0);
             for (int k = 0; k < 8; k++) {
                 int near = (at & ~7) + k;
-                boolean written = near >= at && near < at + want.length;
-                CHECK.due("OP " + op + " at " + at + ": byte " + near, x.byteOf(near), written ? want[near - at] : 0x77);
+                int due = near >= at && near < at + want.length ? want[near - at] : 0x77;
+                CHECK.due("OP " + op + " at " + at + ": byte " + near, x.byteOf(near), due);
             }
             CHECK.due("OP " + op + " leaves T", x.register(9), 0xA1B2C3D4);
             CHECK.due("OP " + op + " leaves S", x.register(8), DATA);
