@@ -55,6 +55,10 @@ public final class RandomTest {
         due("word", x.word(v), model.word(v));
     }
 
+    private void data(int k, int v) {
+        due("data", x.data(k, v), model.data(k, v));
+    }
+
     private void give(int k, int v) {
         due("give", x.give(k, v), model.give(k, v));
     }
@@ -79,7 +83,7 @@ public final class RandomTest {
             int b = random.nextInt(256);
             int at = random.nextInt(256);
             due("input", x.input(b), model.input(b));
-            due("data", x.data(at, b), model.data(at, b));
+            data(at, b);
         }
         due("begin", x.begin(), model.begin());
         for (int k = 1; k < 8; k++) {
@@ -144,11 +148,11 @@ public final class RandomTest {
         while (calls < MOST_CALLS) {
             int a = anyArgument();
             int b = random.nextInt(4) == 0 ? anyArgument() : anyValue();
-            switch (random.nextInt(14)) {
+            switch (random.nextInt(16)) {
                 case 0 -> word(anyWord(32));
                 case 1 -> due("set", x.set(a, b), model.set(a, b));
                 case 2 -> due("input", x.input(a), model.input(a));
-                case 3 -> due("data", x.data(a, a), model.data(a, a));
+                case 3 -> data(a, anyArgument());
                 case 4 -> due("begin", x.begin(), model.begin());
                 case 5 -> runFor(a);
                 case 6 -> runFor(1 + random.nextInt(9));
@@ -158,6 +162,8 @@ public final class RandomTest {
                 case 10 -> due("byteOf", x.byteOf(a), model.byteOf(a));
                 case 11 -> due("output", x.output(a), model.output(a));
                 case 12 -> due("code", x.code(), model.code());
+                case 13 -> give(2, 1 + random.nextInt(3));
+                case 14 -> give(4, b);
                 default -> lookAtRegister();
             }
         }
